@@ -401,6 +401,13 @@ public final class PromiseTest {
                 due("tells the answer", x.tells(0, answer), sets == 1 ? 64 : -1);
             }
         }
+        SumsInWords z = narrow(people(), 2, 2, 2, 2, 1, 2);
+        z.ways(1);
+        due("7: X + Y is the answer if Z is 1", z.choose(7, 0, 1, 0, -1, -1), 1);
+        z.ways(5);
+        due("2: X + Y is X * Y", z.choose(2, 0, 1, 0, -1, -1), 0);
+        z.ways(4);
+        due("2: X * Y alone", z.sets(), 1);
         SumsInWords y = narrow(people(), 9, 9, 3, 3, 4, 4, 11, 11);
         y.ways(8);
         due("together, idle", y.choose(0, 0, 1, 0, 2, 1), 1);
@@ -653,6 +660,9 @@ public final class PromiseTest {
         dueFault(x, "in a box are 3 boxes.", 1, 15);
         dueFault(x, "in a boxes", 1, 5);
         dueFault(x, "in ab", 1, 3);
+        dueFault(x, "ann puts them in 3 boxes.", 1, 14);
+        dueFault(x, "in a bo", 1, 5);
+        dueFault(x, "how manyy", 1, 4);
         dueFault(x, "how many boxes", 1, 9);
         dueFault(x, "how many pears has ann.", 1, 22);
         dueFault(x, "how many pears are in a box.", 1, 27);
@@ -681,6 +691,9 @@ public final class PromiseTest {
         dueFault(x, " how many pears has ann?", 2, 1);
         dueFault(x, "ann has 3 pears. how many pears has ann?", 2, 17);
         dueFault(x, "ann has 3 pears. ann gets 3 cups. how many pears has ann?", 2, 34);
+        dueFault(x, "ann has 3 cups. ann gets 3 pears. how many pears has ann?", 2, 34);
+        dueFault(x, "in a box are 3 cups. ann has 3 boxes. how many pears has ann?", 2, 38);
+        dueFault(x, "ben has 3 cups more than ann. ann has 3 pears. how many pears has ben?", 2, 47);
         dueFault(x, "ann has 3 pears. ben gets 3 pears. how many pears has ann?", 2, 35);
         dueFault(x, "ann has 3 pears. ann gets 3 pears. how many pears has ben?", 2, 35);
         dueFault(x, "ann has 3 pears. ann gets 3 pears. how many cups has ann?", 2, 35);
@@ -814,5 +827,20 @@ public final class PromiseTest {
         due("image 0 stays", x.again(0), true);
         due("things", x.count(1), 3);
         due("sets", x.sets(), -1);
+        imageOfChoice();
+    }
+
+    private static void imageOfChoice() {
+        SumsInWords x = narrow(people(), 6, 6, 7, 7, 1, 1, 4, 4);
+        due("choose", x.choose(4, 1, 2, 1, 0, 2), 1);
+        dueFault(x, "how", 1, 3);
+        due("image", x.image(2), true);
+        due("another choice", narrow(x, 8, 8).choose(5, 0, 1, 0, -1, -1), 1);
+        due("a thing more", x.thing(word("hats"), 7), 3);
+        dueFault(x, "how many", 1, 8);
+        due("again", x.again(2), true);
+        dueTale(x, 0, true, 1, "cyd has 7 cups more than ben. ann has 4 figs. ben has 6 cups. how many cups has cyd?");
+        due("things", x.count(1), 3);
+        due("fault's place", x.fault(1), 3);
     }
 }
