@@ -1,10 +1,5 @@
-import java.nio.charset.StandardCharsets;
-
 /** For each promise of the document: ordinary inputs, the edges that it names, and wrong inputs. */
-public final class PromiseTest {
-    private static int wrong = 0;
-    private static int promise = 0;
-
+public final class PromiseTest extends Kit {
     public static void main(String[] args) {
         newObject();
         names();
@@ -33,103 +28,11 @@ public final class PromiseTest {
         gotFacts();
         counts();
         images();
-        System.out.println(wrong == 0 ? "all promises hold" : wrong + " answers are not as due");
-        if (wrong != 0) {
-            System.exit(1);
-        }
-    }
-
-    private static void due(String what, Object got, Object want) {
-        if (!got.equals(want)) {
-            wrong++;
-            System.out.println("promise " + promise + ": " + what + ": " + got + ", due is " + want);
-        }
-    }
-
-    private static long word(String text) {
-        long word = 0;
-        for (char letter : text.toCharArray()) {
-            word = word << 8 | letter;
-        }
-        return word;
-    }
-
-    /** ann, ben, cyd; pears (90), cups (90), figs (5). */
-    private static SumsInWords people() {
-        SumsInWords x = new SumsInWords();
-        x.name(word("ann"));
-        x.name(word("ben"));
-        x.name(word("cyd"));
-        x.thing(word("pears"), 90);
-        x.thing(word("cups"), 90);
-        x.thing(word("figs"), 5);
-        return x;
-    }
-
-    private static SumsInWords narrow(SumsInWords x, int... spans) {
-        for (int what = 0; what < spans.length / 2; what++) {
-            due("span " + what, x.span(what, spans[2 * what], spans[2 * what + 1]), true);
-        }
-        return x;
-    }
-
-    private static void feedText(SumsInWords x, String text) {
-        byte[] bytes = text.getBytes(StandardCharsets.ISO_8859_1);
-        int before = x.count(4);
-        for (int at = 0; at < bytes.length; at += 20) {
-            int[] five = new int[5];
-            for (int j = 0; j < 20; j++) {
-                int sign = at + j < bytes.length ? bytes[at + j] & 255 : 0;
-                five[j / 4] = five[j / 4] << 8 | sign;
-            }
-            x.feed(five[0], five[1], five[2], five[3], five[4]);
-        }
-        due("end", x.end(before + bytes.length), before + bytes.length);
-    }
-
-    private static String writtenText(SumsInWords x) {
-        StringBuilder text = new StringBuilder();
-        for (int j = 0; x.written(j) != SumsInWords.NONE; j++) {
-            text.append((char) x.written(j));
-        }
-        return text.toString();
-    }
-
-    private static void dueTale(SumsInWords x, int k, boolean turned, int place, String text) {
-        due("write " + text, x.write(k, turned, place), text.length());
-        due("text", writtenText(x), text);
-    }
-
-    private static void dueRead(SumsInWords x, String text, int code) {
-        feedText(x, text);
-        due("read " + text, x.read(), code);
-        due("fault of " + text, x.fault(0), 0);
-        due("fault's place of " + text, x.fault(1), -1);
-        due("tape behind " + text, x.count(4), 0);
-    }
-
-    private static void dueFault(SumsInWords x, String text, int fault, int place) {
-        feedText(x, text);
-        due("read " + text, x.read(), -1);
-        due("fault of " + text, x.fault(0), fault);
-        due("fault's place of " + text, x.fault(1), place);
-        due("tape behind " + text, x.count(4), 0);
-    }
-
-    private static void dueGot(SumsInWords x, int... facts) {
-        for (int what = 0; what < facts.length; what++) {
-            due("got " + what, x.got(what), facts[what]);
-        }
-    }
-
-    private static void dueSet(SumsInWords x, int k, int... facts) {
-        for (int what = 0; what < facts.length; what++) {
-            due("set " + k + " " + what, x.set(k, what), facts[what]);
-        }
+        finish("all promises hold");
     }
 
     private static void newObject() {
-        promise = 1;
+        under("promise 1");
         SumsInWords x = new SumsInWords();
         for (int what = 0; what <= 4; what++) {
             due("count " + what, x.count(what), 0);
@@ -154,7 +57,7 @@ public final class PromiseTest {
     }
 
     private static void names() {
-        promise = 2;
+        under("promise 2");
         SumsInWords x = new SumsInWords();
         due("thing", x.thing(word("pears"), 1), 0);
         String kept = "has boxes gets loses puts them into in a box are more than now how many have both had";
@@ -184,7 +87,7 @@ public final class PromiseTest {
     }
 
     private static void things() {
-        promise = 3;
+        under("promise 3");
         SumsInWords x = new SumsInWords();
         due("name", x.name(word("ann")), 0);
         due("name's", x.thing(word("ann"), 5), -1);
@@ -211,7 +114,7 @@ public final class PromiseTest {
     }
 
     private static void spans() {
-        promise = 4;
+        under("promise 4");
         SumsInWords x = people();
         due("at first", x.choose(0, 0, 0, 0, -1, -1), 400);
         due("60", x.span(0, 60, 60), true);
@@ -233,7 +136,7 @@ public final class PromiseTest {
     }
 
     private static void ways() {
-        promise = 5;
+        under("promise 5");
         SumsInWords x = narrow(people(), 1, 3, 1, 3);
         due("choose", x.choose(0, 0, 0, 0, -1, -1), 9);
         due("6", x.ways(6), true);
@@ -248,7 +151,7 @@ public final class PromiseTest {
     }
 
     private static void choosing() {
-        promise = 6;
+        under("promise 6");
         SumsInWords x = narrow(people(), 1, 3, 1, 3);
         due("no shape", x.choose(8, 0, 1, 0, -1, -1), -1);
         due("no shape", x.choose(-1, 0, 1, 0, -1, -1), -1);
@@ -284,7 +187,7 @@ public final class PromiseTest {
     }
 
     private static void countsByShape() {
-        promise = 6;
+        under("promise 6");
         // With X and Y from 1 to 6 and Z from 1 to 3, things at most 5.
         SumsInWords x = narrow(people(), 1, 6, 1, 6, 1, 3);
         due("0: sums to 5", x.choose(0, 0, 1, 2, -1, -1), 10);
@@ -310,7 +213,7 @@ public final class PromiseTest {
     }
 
     private static void setsNow() {
-        promise = 7;
+        under("promise 7");
         SumsInWords x = people();
         due("nothing chosen", x.sets(), -1);
         due("choose", x.choose(1, 0, 1, 0, -1, -1), 190);
@@ -334,7 +237,7 @@ public final class PromiseTest {
     }
 
     private static void setFacts() {
-        promise = 8;
+        under("promise 8");
         SumsInWords x = narrow(people(), 4, 5, 2, 3, 1, 3, 7, 8);
         due("choose", x.choose(7, 0, 1, 0, 1, 1), 14);
         // (4 + 2) by 1, 2, 3; (4 + 3) by 1; (5 + 2) by 1; (5 + 3) by 1, 2.
@@ -358,7 +261,7 @@ public final class PromiseTest {
     }
 
     private static void wayNumbers() {
-        promise = 8;
+        under("promise 8");
         SumsInWords x = narrow(people(), 9, 9, 3, 3, 4, 4, 11, 11);
         int[][] facts = {
             {12, 12, 6, 27, 12, 9, 12}, {6, 12, 6, 27, 12, 9, 6}, {3, 12, 6, 27, 12, 9, 3}, {27, 12, 6, 27, 12, 9, 27},
@@ -381,7 +284,7 @@ public final class PromiseTest {
     }
 
     private static void temptingWays() {
-        promise = 9;
+        under("promise 9");
         SumsInWords x = narrow(people(), 9, 9, 3, 3, 4, 4, 11, 11);
         // Bits by shape: the ways that don't tempt without an idle sentence, told or not.
         int[] notTempting = {0b101001, 0b100010, 0b100000, 0b100100, 0b101001, 0b100000, 0b100010, 0b100000};
@@ -420,7 +323,7 @@ public final class PromiseTest {
     }
 
     private static void tellings() {
-        promise = 9;
+        under("promise 9");
         SumsInWords x = people();
         due("nothing chosen", x.tells(0, 1), -1);
         narrow(x, 5, 5, 3, 3);
@@ -440,7 +343,7 @@ public final class PromiseTest {
     }
 
     private static void sheets() {
-        promise = 10;
+        under("promise 10");
         SumsInWords x = people();
         due("nothing chosen", x.sheet(5), -1);
         due("choose", x.choose(1, 0, 1, 0, -1, -1), 190);
@@ -461,7 +364,7 @@ public final class PromiseTest {
     }
 
     private static void placesOnSheet() {
-        promise = 11;
+        under("promise 11");
         SumsInWords x = narrow(people(), 2, 4, 1, 4);
         due("choose", x.choose(1, 0, 1, 0, -1, -1), 6);
         // 2-1 3-1 3-2 4-1 4-2 4-3: the answers are 1 2 1 3 2 1.
@@ -481,7 +384,7 @@ public final class PromiseTest {
     }
 
     private static void writing() {
-        promise = 12;
+        under("promise 12");
         SumsInWords x = narrow(people(), 12, 12, 4, 4, 8, 8, 5, 5);
         String[] tales = {
             "ann has 12 pears. ann gets 4 pears. how many pears has ann?",
@@ -528,7 +431,7 @@ public final class PromiseTest {
     }
 
     private static void writtenBytes() {
-        promise = 13;
+        under("promise 13");
         SumsInWords x = narrow(people(), 1, 1, 60, 60);
         due("nothing", x.written(0), -1);
         due("choose", x.choose(0, 0, 1, 0, -1, -1), 1);
@@ -545,7 +448,7 @@ public final class PromiseTest {
     }
 
     private static void taking() {
-        promise = 14;
+        under("promise 14");
         SumsInWords x = narrow(people(), 8, 8, 2, 2);
         feedText(x, "how");
         due("nothing written", x.take(), -1);
@@ -561,7 +464,7 @@ public final class PromiseTest {
     }
 
     private static void feeding() {
-        promise = 15;
+        under("promise 15");
         SumsInWords x = people();
         for (int n = 1; n <= 20; n++) {
             due("feed", x.feed(0x20202020, 0x20202020, 0x20202020, 0x20202020, 0x20202020), 20 * n);
@@ -580,7 +483,7 @@ public final class PromiseTest {
     }
 
     private static void ending() {
-        promise = 16;
+        under("promise 16");
         SumsInWords x = people();
         due("0 of none", x.end(0), 0);
         due("1 of none", x.end(1), -1);
@@ -595,7 +498,7 @@ public final class PromiseTest {
     }
 
     private static void readingShapes() {
-        promise = 17;
+        under("promise 17");
         SumsInWords x = people();
         dueRead(x, "ann has 9999 pears. ann gets 1 pears. how many pears has ann?", 0);
         dueRead(x, "ann has 7 pears. ann loses 8 pears. how many pears has ann?", 1);
@@ -621,7 +524,7 @@ public final class PromiseTest {
     }
 
     private static void readingAllowedForms() {
-        promise = 17;
+        under("promise 17");
         SumsInWords x = people();
         dueRead(x, "  \n ann\nhas 3\n\npears .ann gets 4pears.how many pears has ann ?\n ", 0);
         SumsInWords y = new SumsInWords();
@@ -635,7 +538,7 @@ public final class PromiseTest {
     }
 
     private static void readingFaults() {
-        promise = 18;
+        under("promise 18");
         SumsInWords x = people();
         dueFault(x, "", 1, 0);
         dueFault(x, "   ", 1, 3);
@@ -686,7 +589,7 @@ public final class PromiseTest {
     }
 
     private static void readingNoTale() {
-        promise = 18;
+        under("promise 18");
         SumsInWords x = people();
         dueFault(x, " how many pears has ann?", 2, 1);
         dueFault(x, "ann has 3 pears. how many pears has ann?", 2, 17);
@@ -723,7 +626,7 @@ public final class PromiseTest {
     }
 
     private static void faultAnswers() {
-        promise = 18;
+        under("promise 18");
         SumsInWords x = people();
         dueFault(x, "how", 1, 3);
         due("what 2", x.fault(2), -1);
@@ -735,7 +638,7 @@ public final class PromiseTest {
     }
 
     private static void gotFacts() {
-        promise = 19;
+        under("promise 19");
         SumsInWords x = people();
         feedText(x, "how many");
         x.read();
@@ -764,7 +667,7 @@ public final class PromiseTest {
     }
 
     private static void counts() {
-        promise = 20;
+        under("promise 20");
         SumsInWords x = narrow(people(), 1, 3, 1, 3);
         x.name(word("dot"));
         due("names", x.count(0), 4);
@@ -781,7 +684,7 @@ public final class PromiseTest {
     }
 
     private static void images() {
-        promise = 21;
+        under("promise 21");
         SumsInWords x = people();
         due("image 3", x.image(3), false);
         due("image -1", x.image(-1), false);
@@ -796,7 +699,7 @@ public final class PromiseTest {
         due("sheet", x.sheet(3), 3);
         feedText(x, "ann has");
         due("image 1", x.image(1), true);
-        promise = 22;
+        under("promise 22");
         due("again 2", x.again(2), false);
         due("again 3", x.again(3), false);
         due("again -1", x.again(-1), false);
