@@ -1,4 +1,5 @@
 import java.io.IOException;
+import java.lang.management.ManagementFactory;
 import java.lang.reflect.Constructor;
 import java.lang.reflect.Field;
 import java.lang.reflect.Member;
@@ -26,6 +27,7 @@ public final class LanguageTest {
         words(bare);
         library(bare);
         sizes(code);
+        room();
         if (!source.matches("\\p{ASCII}*")) {
             fault(4, "a sign beyond 127");
         }
@@ -119,6 +121,42 @@ public final class LanguageTest {
                 + "|System\\.arraycopy|(Integer|Long)\\.(compare|max|min|bitCount)|List\\.of")) {
                 fault(4, call);
             }
+        }
+    }
+
+    /** An object makes its own rows and those of its three images, some 16 KB, and its calls nothing more. */
+    private static void room() {
+        com.sun.management.ThreadMXBean made = (com.sun.management.ThreadMXBean) ManagementFactory.getThreadMXBean();
+        long least = Long.MAX_VALUE;
+        for (int times = 0; times < 3; times++) {
+            long before = made.getThreadAllocatedBytes(Thread.currentThread().getId());
+            dearestCalls();
+            least = Math.min(least, made.getThreadAllocatedBytes(Thread.currentThread().getId()) - before);
+        }
+        if (least > 40000) {
+            fault(12, least + " bytes made by one object");
+        }
+    }
+
+    private static void dearestCalls() {
+        SumsInWords x = new SumsInWords();
+        x.name(0x6262);
+        x.name(0x6363);
+        x.thing(0x6464, 90);
+        x.thing(0x6565, 90);
+        for (int round = 0; round < 42; round++) {
+            x.choose(7, 0, 0, 0, 1, 1);
+            x.sets();
+            x.set(100, 4);
+            x.tells(100, 4);
+            x.sheet(20);
+            x.write(100, false, 3);
+            x.take();
+            x.read();
+            x.image(round % 3);
+            x.again(round % 3);
+            x.feed(0x686f7720, 0x6d616e79, 0x20206464, 0, 0);
+            x.read();
         }
     }
 

@@ -835,10 +835,18 @@ public final class PromiseBoundaryTest extends Kit {
             due("nothing is chosen", x.write(0, false, 0), -1);
         } else if (k == 1) {
             dueTale(x, 0, true, 2, "ben has 1 pears more than ann. ann has 2 pears. cyd has 4 cups. how many pears have both?");
+            // 90 pears and 50 cups at most.
+            due("at the most", narrow(x, 44, 44, 2, 2, 1, 1, 50, 50).sets(), 1);
+            due("beyond that of I", narrow(x, 44, 44, 2, 2, 1, 1, 51, 51).sets(), 0);
+            due("beyond that of t", narrow(x, 45, 45, 2, 2, 1, 1, 50, 50).sets(), 0);
         } else {
             // 3 + 2 by 1 is a sum that tempts, and by 2 and 3 it isn't whole.
             dueTale(x, 0, false, 0, "ben has 6 hats. dot has 3 cups. dot gets 3 cups. dot puts them into 2 boxes."
                 + " how many cups are in a box?");
+            // 50 cups and 7 hats at most.
+            due("at the most", narrow(x, 48, 48, 2, 2, 2, 2, 7, 7).sets(), 1);
+            due("beyond that of I", narrow(x, 48, 48, 2, 2, 2, 2, 8, 8).sets(), 0);
+            due("beyond that of t", narrow(x, 50, 50, 2, 2, 2, 2, 7, 7).sets(), 0);
         }
     }
 
@@ -863,7 +871,7 @@ public final class PromiseBoundaryTest extends Kit {
         x.name(word("ben"));
         x.name(word("cyd"));
         x.thing(word("pears"), 90);
-        x.thing(word("cups"), 80);
+        x.thing(word("cups"), 50);
         narrow(x, 2, 9, 1, 3, 1, 2, 4, 5);
         x.ways(4);
         x.choose(5, 0, 1, 0, 2, 1);
