@@ -55,11 +55,12 @@ public final class SumsInWords {
     private final Reader reader;
 
     public SumsInWords() {
-        now = new State();
+        State state = new State();
+        now = state;
         images = new State[IMAGES];
-        walk = new SetWalk(now.plan, now.words);
-        writer = new Writer(now.words, now.text);
-        reader = new Reader(now.words, now.tape);
+        walk = new SetWalk(state.plan, state.words);
+        writer = new Writer(state.words, state.text);
+        reader = new Reader(state.words, state.tape);
     }
 
     public int name(long word) {
@@ -965,8 +966,7 @@ public final class SumsInWords {
     private static final class Reader {
         private final Words words;
         private final Bytes tape;
-        private final Sentence[] row = new Sentence[MOST_SENTENCES + 1];
-        final ShapeFinder finder;
+        final ShapeFinder finder = new ShapeFinder();
         /** How far the sentence that is being read has come in each form; NONE if it isn't one. */
         private final int[] reached = new int[FORMS.length()];
         int sentences;
@@ -985,10 +985,6 @@ public final class SumsInWords {
         Reader(Words words, Bytes tape) {
             this.words = words;
             this.tape = tape;
-            for (int j = 0; j < row.length; j++) {
-                row[j] = new Sentence();
-            }
-            finder = new ShapeFinder(row);
         }
 
         /** Whether the tape is sentences and a question; if not, start is the fault's place. */
@@ -1012,12 +1008,7 @@ public final class SumsInWords {
         private void openSentence() {
             opening = true;
             Arrays.fill(reached, 0);
-            current().clear();
-        }
-
-        /** Sentences too many share the last place: they are no tale, whatever they tell. */
-        private Sentence current() {
-            return row[Math.max(0, Math.min(sentences, MOST_SENTENCES))];
+            finder.sentenceAt(sentences).clear();
         }
 
         private boolean goOn() {
@@ -1044,7 +1035,7 @@ public final class SumsInWords {
         }
 
         private void closeSentence(char form) {
-            current().form = form;
+            finder.sentenceAt(sentences).form = form;
             if (isQuestion(form)) {
                 asked = true;
             } else {
@@ -1075,7 +1066,7 @@ public final class SumsInWords {
         }
 
         private boolean keepPart(char part) {
-            Sentence sentence = current();
+            Sentence sentence = finder.sentenceAt(sentences);
             switch (part) {
                 case 'N':
                     sentence.first = nameRead;
@@ -1157,9 +1148,9 @@ public final class SumsInWords {
         }
     }
 
-    /** Finds the one shape of which a row of sentences and its question are a tale. */
+    /** Holds a row of sentences and its question, and finds the one shape of which they are a tale. */
     private static final class ShapeFinder {
-        private final Sentence[] row;
+        private final Sentence[] row = new Sentence[MOST_SENTENCES + 1];
         private int sentences;
         private int shape;
         private boolean turned;
@@ -1169,8 +1160,15 @@ public final class SumsInWords {
         private int m;
         private int t;
 
-        ShapeFinder(Sentence[] row) {
-            this.row = row;
+        ShapeFinder() {
+            for (int j = 0; j < row.length; j++) {
+                row[j] = new Sentence();
+            }
+        }
+
+        /** Sentences too many share the last place: they are no tale, whatever they tell. */
+        Sentence sentenceAt(int place) {
+            return row[Math.max(0, Math.min(place, MOST_SENTENCES))];
         }
 
         /** What read() answers. The facts are changed only if there is a tale. */
@@ -1209,12 +1207,11 @@ public final class SumsInWords {
 
         /** Sentence j of the shape, or its question, past the idle one. */
         private Sentence part(int j) {
-            int place = idlePlace != NONE && j >= idlePlace ? j + 1 : j;
-            return row[Math.max(0, Math.min(place, MOST_SENTENCES))];
+            return sentenceAt(idlePlace != NONE && j >= idlePlace ? j + 1 : j);
         }
 
         private Sentence idle() {
-            return row[Math.max(0, Math.min(idlePlace, MOST_SENTENCES))];
+            return sentenceAt(idlePlace);
         }
 
         private boolean hasForms() {
